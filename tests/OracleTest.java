@@ -137,6 +137,7 @@ public final class OracleTest {
         else if (kind == 3) is("undo", x.undo(text), o.undo(text));
         else if (kind == 4) is("fault", x.fault(text), o.fault(text));
         else is("count", x.count(b % 10), o.count(b % 10));
+        if (random.nextInt(8) == 0) is("digest", x.digest(), o.digest());
         if (random.nextInt(200) == 0) is("wipe", x.wipe(text), o.wipe(text));
     }
 

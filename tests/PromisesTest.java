@@ -761,20 +761,48 @@ public final class PromisesTest {
         long bad = Long.MIN_VALUE + 2;
         long[] told = {0, 0, 0, 0, 0, 0, 0, 0, NONE, NONE, 0, 0, NOT, NOT, BAD, BAD, BAD, 0, NONE, NONE,
             0, NONE, bad, bad, BAD};
-        long h = 17;
-        for (long each : told) {
-            h = 31 * h + each;
-        }
-        is("digest of a new object", new OnlySideways().digest(), h);
+        is("digest of a new object", new OnlySideways().digest(), mixed(17, told));
         OnlySideways x = Due.with("8000", "...;...");
         long[] one = {1, 6, 4, 7, 0, 1, 1, 0, NONE, NONE, 0x1000, 125, 500, 500, 125, 1, 4, 1, 1, 1, 1, 1, NOT,
             6, 4, 1, 0, 1, 4, 4, 1, 2, 0, 8, 3, 8, 9, 16, BAD};
-        h = 17;
-        for (long each : one) {
-            h = 31 * h + each;
-        }
+        long h = mixed(17, one);
         is("digest of a cell in a house", x.digest(), h);
         is("digest changes nothing", x.digest(), h);
+        digestIsByCalls("8000;c000;8800;88c0;0001;f000;8c40;9009", WIDE);
+        digestIsByCalls("c000;8000;4480;cc00", "....;....;....;....");
+        digestIsByCalls("8000;8000", "..#.....;.....#..;........;....#...;#.......;........");
+        digestIsByCalls("4000;8000", "#..#....;...#....;.#......;........;..#.....;........");
+        digestIsByCalls("8000;0800;c000;00c0;f99f;6ff6;1248;ffff", "....;..#.;....;#...;....");
+        digestIsByCalls("8000;0800;c000;0", "....;..#.;....;#...;...");
+    }
+
+    private static void digestIsByCalls(String shapes, String house) {
+        OnlySideways x = Due.with(shapes, house);
+        is("digest of " + shapes + " in " + house, x.digest(), digestByCalls(x));
+        x.seen(0, 125);
+        is("digest of " + shapes + " in " + house + ", SEEN", x.digest(), digestByCalls(x));
+    }
+
+    private static long digestByCalls(OnlySideways x) {
+        long[] ahead = {x.count(0), x.count(1), x.count(2), x.count(3), x.count(4), x.count(5), x.count(6), x.count(7),
+            x.fault(0), x.fault(1)};
+        long h = mixed(17, ahead);
+        for (int it = 0; it < x.count(0); it++) {
+            h = mixed(h, x.shape(it, 1), x.sight(it, 0, 0), x.sight(it, 0, 1), x.sight(it, 0, 2), x.sight(it, 0, 3),
+                x.form(it, 0), x.form(it, 1), x.form(it, 2), x.kin(it, 0), x.kin(it, 1), x.self(it),
+                x.stands(it, 0, 0), x.through(it, 0, 0, 1, 9), x.reach(it, 0, 0));
+        }
+        return mixed(h, x.fits(0), x.fits(1), x.look(0), x.look(1), x.view(0), x.view(9), x.sees(0, 2),
+            x.watchers(0), x.watchers(1), x.watchers(2), x.echoes(1, NONE, NONE, NONE, 0),
+            x.echoes(1, NONE, NONE, NONE, 1), x.fog(0, 2, 4, 0), x.fog(0, 2, 4, 1), x.meet(0, 0, 0, 1, 0, 2));
+    }
+
+    private static long mixed(long before, long... told) {
+        long h = before;
+        for (long each : told) {
+            h = 31 * h + each;
+        }
+        return h;
     }
 
     /** None of these may throw, and all are refused. */

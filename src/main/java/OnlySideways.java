@@ -716,16 +716,16 @@ public final class OnlySideways {
             }
             int place = 0;
             for (int i = 0; i < MOST; i++) {
-                int told = 0;
+                int cells = 0;
                 for (int k = 0; k < FIGURES; k++) {
-                    int figure = figure(text.at(place));
-                    if (figure == NONE) {
+                    int bits = figure(text.at(place));
+                    if (bits == NONE) {
                         return place;
                     }
-                    told = 16 * told + figure;
+                    cells |= bits;
                     place++;
                 }
-                if (told == 0) {
+                if (cells == 0) {
                     return place - 1;
                 }
                 if (place == text.length) {
