@@ -1,3 +1,6 @@
+import java.util.ArrayDeque;
+import java.util.Arrays;
+
 /** Promises 12 to 15: where a SHAPE can stand, come through, reach and meet: each sentence at its edges. */
 public final class HouseEdgesTest {
     private static final int NONE = -1, BAD = -2, NOT = -3;
@@ -22,6 +25,8 @@ public final class HouseEdgesTest {
         reachNumbers();
         meet();
         meetNumbers();
+        allWays("8000;c840;0040", "....#...;.##...#.;...#....;#...##.#;..#.....;....#.#.;.#......;...#..#.");
+        allWays("4600;88c0;f000", ".....;.....;..#..;.....;.....;.....");
         due.end();
     }
 
@@ -328,5 +333,102 @@ public final class HouseEdgesTest {
         int[] a = base.clone();
         a[k] = value;
         return x.meet(a[0], a[1], a[2], a[3], a[4], a[5]);
+    }
+
+    /** Each stand to each stand, against steps that are counted here one by one. */
+    private static void allWays(String shapes, String house) {
+        due.says("THROUGH: the fewest steps from one such stand to another one; NONE. REACH: at how many CELLS it can come to stand (in whatever turn) from one.");
+        for (int shape = 0; shape < 3; shape++) {
+            for (int stand = 0; stand < 256; stand++) {
+                OnlySideways x = Due.with(shapes, house);
+                int[] steps = stepsFrom(shapes, house, shape, stand);
+                String from = "(" + shape + ", " + stand / 64 + ", " + stand % 64;
+                is("reach" + from + ")", x.reach(shape, stand / 64, stand % 64), reached(steps, stand));
+                for (int to = 0; to < 256; to++) {
+                    is("through" + from + ", " + to / 64 + ", " + to % 64 + ")",
+                        x.through(shape, stand / 64, stand % 64, to / 64, to % 64), steps[to]);
+                }
+            }
+        }
+        due.says("MEET: two (SHAPES, stands) can stand at once, no cell being of both: 1, 0.");
+        for (int stand = 0; stand < 768; stand += 5) {
+            OnlySideways x = Due.with(shapes, house);
+            long own = covered(shapes, house, stand / 256, stand % 256);
+            for (int other = stand % 3; other < 768; other += 3) {
+                long its = covered(shapes, house, other / 256, other % 256);
+                int want = own != 0 && its != 0 && (own & its) == 0 ? 1 : 0;
+                is("meet of " + stand + " and " + other, x.meet(stand / 256, stand / 64 % 4, stand % 64,
+                    other / 256, other / 64 % 4, other % 64), want);
+            }
+        }
+    }
+
+    private static int reached(int[] steps, int stand) {
+        if (steps[stand] == NOT) {
+            return NOT;
+        }
+        int cells = 0;
+        for (int cell = 0; cell < 64; cell++) {
+            boolean some = false;
+            for (int t = 0; t < 4; t++) {
+                some |= steps[64 * t + cell] >= 0;
+            }
+            cells += some ? 1 : 0;
+        }
+        return cells;
+    }
+
+    /** For each stand (64 times the turn and the CELL) what through answers. */
+    private static int[] stepsFrom(String shapes, String house, int shape, int first) {
+        int[] steps = new int[256];
+        for (int stand = 0; stand < 256; stand++) {
+            steps[stand] = covered(shapes, house, shape, stand) == 0 ? NOT : NONE;
+        }
+        if (steps[first] == NOT) {
+            Arrays.fill(steps, NOT);
+            return steps;
+        }
+        ArrayDeque<Integer> queue = new ArrayDeque<>();
+        steps[first] = 0;
+        queue.add(first);
+        while (!queue.isEmpty()) {
+            int now = queue.remove();
+            int cell = now % 64;
+            int[] nexts = {cell >= 8 ? now - 8 : now, cell % 8 < 7 ? now + 1 : now, cell < 56 ? now + 8 : now,
+                cell % 8 > 0 ? now - 1 : now, (now + 64) % 256, (now + 192) % 256};
+            for (int next : nexts) {
+                if (steps[next] == NONE) {
+                    steps[next] = steps[now] + 1;
+                    queue.add(next);
+                }
+            }
+        }
+        return steps;
+    }
+
+    /** The CELLS of a stand as bits; 0 if it cannot stand so. */
+    private static long covered(String shapes, String house, int shape, int stand) {
+        String[] rows = house.split(";");
+        long bits = 0;
+        for (int i = 0; i < 16; i++) {
+            int figure = Character.digit(shapes.charAt(5 * shape + i / 4), 16);
+            if ((figure & 8 >> i % 4) == 0) {
+                continue;
+            }
+            int row = i / 4;
+            int column = i % 4;
+            for (int t = 0; t < stand / 64; t++) {
+                int before = row;
+                row = column;
+                column = 3 - before;
+            }
+            row += stand % 64 / 8;
+            column += stand % 8;
+            if (row >= rows.length || column >= rows[0].length() || rows[row].charAt(column) != '.') {
+                return 0;
+            }
+            bits |= 1L << 8 * row + column;
+        }
+        return bits;
     }
 }
