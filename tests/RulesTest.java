@@ -32,10 +32,18 @@ public final class RulesTest {
     private static final Due due = new Due();
 
     public static void main(String[] args) throws Exception {
+        String source = read("source");
         face();
+        documentsFace(source, read("doc"));
+        documentsHeadings(source, read("doc"));
         ownMembers();
-        text(new String(Files.readAllBytes(Path.of(System.getProperty("source"))), StandardCharsets.UTF_8));
+        text(source);
+        methods(source.split("\n"));
         due.end();
+    }
+
+    private static String read(String property) throws Exception {
+        return new String(Files.readAllBytes(Path.of(System.getProperty(property))), StandardCharsets.UTF_8);
     }
 
     private static void holds(String rule, boolean kept) {
@@ -68,6 +76,42 @@ public final class RulesTest {
         }
         String how = "public static final";
         holds("the constants: " + fields, fields.equals(Set.of(how + "NONE", how + "BAD", how + "NOT", how + "FULL")));
+    }
+
+    /** Each line of the document's face stands in the source as it is. */
+    private static void documentsFace(String source, String document) {
+        int start = document.indexOf("```java") + "```java".length();
+        int lines = 0;
+        for (String line : document.substring(start, document.indexOf("```", start)).split("\n")) {
+            String told = line.trim();
+            if (told.endsWith(";")) {
+                String wanted = told.contains("=") ? told : told.substring(0, told.length() - 1) + " {";
+                holds("the face: " + told, source.contains("\n    " + wanted + "\n"));
+                lines++;
+            }
+        }
+        holds("constants, constructor and methods of the face: " + lines, lines == FACE.length + 2);
+    }
+
+    private static void documentsHeadings(String source, String document) {
+        Matcher headings = Pattern.compile("Ahead of the calls (.*?) the interface says: (---- [^.]*)\\.").matcher(document);
+        int place = 0;
+        int headed = 0;
+        while (headings.find()) {
+            place = next(source, "// " + headings.group(2) + "\n", place);
+            for (String name : headings.group(1).replace("`", "").split(", ")) {
+                String type = name.equals("fog") || name.equals("digest") ? "long " : "int ";
+                place = next(source, "public " + type + name + "(", place);
+                headed++;
+            }
+        }
+        holds("every call stands under a heading: " + headed, headed == FACE.length);
+    }
+
+    private static int next(String source, String words, int place) {
+        int found = source.indexOf(words, Math.max(place, 0));
+        holds("behind the one before it: " + words, found >= 0);
+        return found;
     }
 
     private static void ownMembers() {
@@ -114,5 +158,25 @@ public final class RulesTest {
             if (sign > 127) holds("a sign above 127", false);
         }
         holds("no array of three dimensions", !code.contains("[][][]"));
+    }
+
+    /** Methods stay short, and rows are made in constructors alone, so that no call takes up room. */
+    private static void methods(String[] lines) {
+        Pattern head = Pattern.compile("( {4}| {8})[^ /}].*\\) \\{");
+        Pattern constructor = Pattern.compile(" +(public )?[A-Z]\\w*\\(.*\\) \\{");
+        int shown = 0;
+        for (int i = 0; i < lines.length; i++) {
+            Matcher start = head.matcher(lines[i]);
+            if (!start.matches() || lines[i].matches(" +(if|for|while|switch) .*")) continue;
+            int end = i;
+            while (end < lines.length - 1 && !lines[end].equals(start.group(1) + "}")) {
+                boolean makes = lines[end].contains(" new ");
+                holds("no object is made in: " + lines[i], !makes || constructor.matcher(lines[i]).matches());
+                end++;
+            }
+            holds("at most sixty lines: " + lines[i], end - i < 60);
+            shown++;
+        }
+        holds("methods looked at: " + shown, shown >= FACE.length + 1);
     }
 }
